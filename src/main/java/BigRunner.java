@@ -1107,7 +1107,6 @@ public final class BigRunner {
                 dividend[place + i] = difference;
             }
             boolean tooOften = carry > dividend[place + size];
-            dividend[place + size] = 0;
             if (tooOften) {
                 putBack(place);
             }

@@ -24,6 +24,11 @@ public final class LoadTest {
         for (String text : OTHERS) {
             check.due("load of " + text, loads(text), false);
         }
+        String deep = "[a:".repeat(9) + "?a" + "]".repeat(9);
+        String lessDeep = "[a:".repeat(7) + "?a" + "]".repeat(7);
+        check.due("load of as many STATEMENTs as can be", loads(deep + ";" + lessDeep + ";?a"), true);
+        check.due("load of as many side by side", loads("[a:?a];".repeat(10) + "?a"), true);
+        check.due("load of as many INPUTs", loads("?a;".repeat(23) + "?a"), true);
         depth(check);
         rounds(check);
         beginsAnew(check);
@@ -74,6 +79,8 @@ public final class LoadTest {
         dueRounds(check, "c=b;b=d;d=a%9;a=a+9", 5);
         dueRounds(check, "a=a*2", 1);
         dueRounds(check, "j=i;i=h;h=g;g=f;f=e;e=d;d=c;c=b;b=a;a=1", 11);
+        // The greatest bounds wander to j in round 10, then the least ones in round 19, then b's and c's greatest.
+        dueRounds(check, "j=i;i=h;h=g;g=f;f=e;e=d;d=c;c=b;b=a;a=1-j", 22);
     }
 
     private static void dueRounds(Check check, String text, int want) {

@@ -5,6 +5,7 @@ import java.util.Random;
 /** Promises 4 to 11 on programs made at random, the same ones each time, against the Model. */
 public final class ModelTest {
     private static final int PROGRAMS = 20000;
+    private static final int PROGRAMS_AN_OBJECT = 4;
     private static final int NEAR_PROGRAMS = 40000;
 
     private static final int[] states = new int[5];
@@ -14,15 +15,19 @@ public final class ModelTest {
         Check check = new Check();
         Random random = new Random(20261115);
         Texts texts = new Texts(random);
+        BigRunner runner = new BigRunner();
         for (int i = 0; i < PROGRAMS; i++) {
-            oneProgram(check, texts.program(), random);
+            if (i % PROGRAMS_AN_OBJECT == 0) {
+                runner = new BigRunner();
+            }
+            oneProgram(check, runner, texts.program(), random);
         }
         int programs = 0;
         for (int i = 0; i < NEAR_PROGRAMS; i++) {
             String text = texts.nearProgram();
             int due = roundsOfModel(text);
             programs += due > 0 ? 1 : 0;
-            check.due("load of " + text, rounds(text), due);
+            check.due("load of " + text, rounds(new BigRunner(), text), due);
         }
         System.out.println("of the texts nearly programs " + programs + " are; states " + java.util.Arrays.toString(states)
                 + ", traps " + java.util.Arrays.toString(traps));
@@ -37,8 +42,7 @@ public final class ModelTest {
         }
     }
 
-    private static int rounds(String text) {
-        BigRunner runner = new BigRunner();
+    private static int rounds(BigRunner runner, String text) {
         Check.typeAll(runner, text);
         try {
             return runner.load();
@@ -47,16 +51,16 @@ public final class ModelTest {
         }
     }
 
-    private static void oneProgram(Check check, String text, Random random) {
+    /** The object may have had other programs; the numbers that wait are taken off first. */
+    private static void oneProgram(Check check, BigRunner runner, String text, Random random) {
+        takeAll(runner);
         int rounds = roundsOfModel(text);
-        check.due("load of " + text, rounds(text), rounds);
+        check.due("load of " + text, rounds(runner, text), rounds);
         if (rounds == 0) {
+            runner.wipe();
             return;
         }
         Model model = new Model(text);
-        BigRunner runner = new BigRunner();
-        Check.typeAll(runner, text);
-        runner.load();
         List<Integer> given = new ArrayList<>();
         int longest = random.nextInt(3) == 0 ? 200 : 9;
         for (int call = 0; call < 24; call++) {
@@ -73,6 +77,14 @@ public final class ModelTest {
         }
         states[model.state]++;
         traps[model.trap]++;
+    }
+
+    private static void takeAll(BigRunner runner) {
+        if (runner.look(6) > 0) {
+            Check.typeAll(runner, "[1:?a]");
+            runner.load();
+            runner.run(200);
+        }
     }
 
     private static void give(BigRunner runner, List<Integer> given, Random random) {

@@ -62,5 +62,13 @@ public final class VariableTest {
         long c = -13841287201L % 999999999L;
         check.due("c", Check.variable(runner, 2), Long.toString(c));
         check.due("d", Check.variable(runner, 3), Long.toString(c * c));
+        BigRunner growing = Check.loaded("a=1;[1:a=a*-98765432;b=a%7654321]");
+        java.math.BigInteger a = java.math.BigInteger.ONE;
+        for (int i = 0; i < 14; i++) {
+            growing.run(i == 0 ? 4 : 3);
+            a = a.multiply(java.math.BigInteger.valueOf(-98765432));
+            check.due("b is SMALL", growing.small(1), true);
+            check.due("b", Check.variable(growing, 1), a.remainder(java.math.BigInteger.valueOf(7654321)).toString());
+        }
     }
 }
