@@ -1,3 +1,5 @@
+import java.math.BigInteger;
+
 /** What the tests share: a line typed in one go, answers compared, exceptions named. */
 final class Check {
     /** A call whose exception is of interest. */
@@ -7,13 +9,17 @@ final class Check {
 
     private int asked = 0;
     private int wrong = 0;
+    private int sentences = 0;
+    private String sentence = "";
+
+    /** What is asked from here on is asked for this sentence of the document. */
+    void sentence(String words) {
+        sentences++;
+        sentence = "\"" + words + "\": ";
+    }
 
     void due(String what, long got, long want) {
-        asked++;
-        if (got != want) {
-            wrong++;
-            System.out.println(what + " answered " + got + ", due is " + want);
-        }
+        due(what, Long.toString(got), Long.toString(want));
     }
 
     void due(String what, boolean got, boolean want) {
@@ -24,7 +30,7 @@ final class Check {
         asked++;
         if (!got.equals(want)) {
             wrong++;
-            System.out.println(what + " answered " + got + ", due is " + want);
+            System.out.println(sentence + what + " answered " + got + ", due is " + want);
         }
     }
 
@@ -41,7 +47,8 @@ final class Check {
 
     /** Tells how it went and ends the program with 1 if an answer was wrong. */
     void end(String test) {
-        System.out.println(test + ": " + asked + " answers, " + wrong + " wrong");
+        String ofSentences = sentences == 0 ? "" : " on " + sentences + " sentences";
+        System.out.println(test + ": " + asked + " answers" + ofSentences + ", " + wrong + " wrong");
         if (wrong != 0 || asked == 0) {
             System.exit(1);
         }
@@ -52,6 +59,17 @@ final class Check {
             if (!runner.type(text.charAt(i))) {
                 throw new AssertionError("refused at " + i + " of " + text);
             }
+        }
+    }
+
+    /** Whether a new object loads the text. */
+    static boolean loads(String text) {
+        BigRunner runner = new BigRunner();
+        typeAll(runner, text);
+        try {
+            return runner.load() > 0;
+        } catch (IllegalArgumentException e) {
+            return false;
         }
     }
 
@@ -73,6 +91,20 @@ final class Check {
         } catch (ArithmeticException | UnsupportedOperationException e) {
             return runner;
         }
+        return runner;
+    }
+
+    /** A new object in which b, which is not SMALL, has the value when the end of the program begins. */
+    static BigRunner withB(BigInteger value, String end) {
+        BigRunner runner = loaded("?f;?b;?a;[a:?c;b=b*f+c;a=a-1];" + end);
+        BigInteger base = BigInteger.valueOf(1000000000);
+        runner.give(1000000000);
+        runner.give(value.divide(base.pow(13)).intValueExact());
+        runner.give(13);
+        for (int place = 12; place >= 0; place--) {
+            runner.give(value.divide(base.pow(place)).remainder(base).intValueExact());
+        }
+        runner.run(3 + 13 * 4 + 1);
         return runner;
     }
 

@@ -19,16 +19,16 @@ public final class LoadTest {
     public static void main(String[] args) {
         Check check = new Check();
         for (String text : PROGRAMS) {
-            check.due("load of " + text, loads(text), true);
+            check.due("load of " + text, Check.loads(text), true);
         }
         for (String text : OTHERS) {
-            check.due("load of " + text, loads(text), false);
+            check.due("load of " + text, Check.loads(text), false);
         }
         String deep = "[a:".repeat(9) + "?a" + "]".repeat(9);
         String lessDeep = "[a:".repeat(7) + "?a" + "]".repeat(7);
-        check.due("load of as many STATEMENTs as can be", loads(deep + ";" + lessDeep + ";?a"), true);
-        check.due("load of as many side by side", loads("[a:?a];".repeat(10) + "?a"), true);
-        check.due("load of as many INPUTs", loads("?a;".repeat(23) + "?a"), true);
+        check.due("load of as many STATEMENTs as can be", Check.loads(deep + ";" + lessDeep + ";?a"), true);
+        check.due("load of as many side by side", Check.loads("[a:?a];".repeat(10) + "?a"), true);
+        check.due("load of as many INPUTs", Check.loads("?a;".repeat(23) + "?a"), true);
         depth(check);
         rounds(check);
         beginsAnew(check);
@@ -37,31 +37,21 @@ public final class LoadTest {
         check.end("LoadTest");
     }
 
-    private static boolean loads(String text) {
-        BigRunner runner = new BigRunner();
-        Check.typeAll(runner, text);
-        try {
-            return runner.load() > 0;
-        } catch (IllegalArgumentException e) {
-            return false;
-        }
-    }
-
     private static void depth(Check check) {
-        check.due("9 -", loads("a=" + "-".repeat(9) + "1"), true);
-        check.due("10 -", loads("a=" + "-".repeat(10) + "1"), false);
-        check.due("9 (", loads("a=" + "(".repeat(9) + "1" + ")".repeat(9)), true);
-        check.due("10 (", loads("a=" + "(".repeat(10) + "1" + ")".repeat(10)), false);
-        check.due("10 LOOPs' worth of PROGRAMs", loads("[1:".repeat(9) + "?a" + "]".repeat(9)), true);
-        check.due("11 PROGRAMs", loads("[1:".repeat(10) + "?a" + "]".repeat(10)), false);
-        check.due("10 PROGRAMs and a FACTOR behind -", loads("[1:".repeat(9) + "!-a" + "]".repeat(9)), false);
-        check.due("the EXPR of the inmost LOOP lies in 9", loads("[1:".repeat(8) + "[-1:?a]" + "]".repeat(8)), true);
-        check.due("the EXPR of the inmost LOOP, 2 deep", loads("[1:".repeat(8) + "[--1:?a]" + "]".repeat(8)), false);
-        check.due("mixed, 10", loads("[1:{1:a=-(-(-(-1)))|?a}]"), true);
-        check.due("mixed, 11", loads("[1:{1:a=-(-(-(-1)))+(-(-(-(-1))))|?a}]"), false);
-        check.due("second PROGRAM of a CHOICE", loads("[1:".repeat(8) + "{1:?a|?b}" + "]".repeat(8)), true);
-        check.due("second PROGRAM of a CHOICE, 11", loads("[1:".repeat(7) + "{1:?a|{1:?a|[1:?b]}}" + "]".repeat(7)), false);
-        check.due("side by side", loads("a=" + "-".repeat(9) + "1" + "*" + "-".repeat(9) + "1+" + "-".repeat(9) + "1"), true);
+        check.due("9 -", Check.loads("a=" + "-".repeat(9) + "1"), true);
+        check.due("10 -", Check.loads("a=" + "-".repeat(10) + "1"), false);
+        check.due("9 (", Check.loads("a=" + "(".repeat(9) + "1" + ")".repeat(9)), true);
+        check.due("10 (", Check.loads("a=" + "(".repeat(10) + "1" + ")".repeat(10)), false);
+        check.due("10 LOOPs' worth of PROGRAMs", Check.loads("[1:".repeat(9) + "?a" + "]".repeat(9)), true);
+        check.due("11 PROGRAMs", Check.loads("[1:".repeat(10) + "?a" + "]".repeat(10)), false);
+        check.due("10 PROGRAMs and a FACTOR behind -", Check.loads("[1:".repeat(9) + "!-a" + "]".repeat(9)), false);
+        check.due("the EXPR of the inmost LOOP lies in 9", Check.loads("[1:".repeat(8) + "[-1:?a]" + "]".repeat(8)), true);
+        check.due("the EXPR of the inmost LOOP, 2 deep", Check.loads("[1:".repeat(8) + "[--1:?a]" + "]".repeat(8)), false);
+        check.due("mixed, 10", Check.loads("[1:{1:a=-(-(-(-1)))|?a}]"), true);
+        check.due("mixed, 11", Check.loads("[1:{1:a=-(-(-(-1)))+(-(-(-(-1))))|?a}]"), false);
+        check.due("second PROGRAM of a CHOICE", Check.loads("[1:".repeat(8) + "{1:?a|?b}" + "]".repeat(8)), true);
+        check.due("second PROGRAM of a CHOICE, 11", Check.loads("[1:".repeat(7) + "{1:?a|{1:?a|[1:?b]}}" + "]".repeat(7)), false);
+        check.due("side by side", Check.loads("a=" + "-".repeat(9) + "1" + "*" + "-".repeat(9) + "1+" + "-".repeat(9) + "1"), true);
     }
 
     private static void rounds(Check check) {
