@@ -33,6 +33,7 @@ public final class EdgesOfCallsTest {
         outputArguments(check);
         outputKept(check);
         outputDigits(check);
+        nothingChanges(check);
         check.end("EdgesOfCallsTest");
     }
 
@@ -189,8 +190,8 @@ public final class EdgesOfCallsTest {
 
     private static void runWithoutProgram(Check check) {
         check.sentence("IllegalStateException: there is no program, or it has ended or was trapped before");
-        BigRunner[] runners = inEveryState();
         for (int n : new int[] {1, 200, 0, 201, -1, LEAST, GREATEST}) {
+            BigRunner[] runners = inEveryState();
             for (int state : new int[] {0, 3, 4}) {
                 String before = Check.everything(runners[state]);
                 check.dueThrow("run(" + n + ") in state " + state, IllegalStateException.class, () -> runners[state].run(n));
@@ -205,14 +206,15 @@ public final class EdgesOfCallsTest {
 
     private static void runArguments(Check check) {
         check.sentence("else IllegalArgumentException: n is not 1 .. 200");
-        BigRunner[] runners = inEveryState();
-        for (int state : new int[] {1, 2}) {
-            String before = Check.everything(runners[state]);
-            for (int n : new int[] {0, 201, -1, 202, -200, LEAST, GREATEST}) {
-                check.dueThrow("run(" + n + ") in state " + state, IllegalArgumentException.class, () -> runners[state].run(n));
-                check.due("all after run(" + n + ")", Check.everything(runners[state]), before);
+        for (int n : new int[] {0, 201, -1, 202, -200, LEAST, GREATEST}) {
+            BigRunner[] wrong = inEveryState();
+            for (int state : new int[] {1, 2}) {
+                String before = Check.everything(wrong[state]);
+                check.dueThrow("run(" + n + ") in state " + state, IllegalArgumentException.class, () -> wrong[state].run(n));
+                check.due("all after run(" + n + ")", Check.everything(wrong[state]), before);
             }
         }
+        BigRunner[] runners = inEveryState();
         check.due("run(1)", runners[1].run(1), 1);
         check.due("run(2)", runners[1].run(2), 2);
         check.due("run(199)", runners[1].run(199), 199);
@@ -564,6 +566,46 @@ public final class EdgesOfCallsTest {
             check.due("behind it", runner.output(0, 120), 0);
             check.due("an output stays when its variable changes", Check.output(runner, 0), value.toString());
             check.due("the other one", Check.output(runner, 1), "1");
+        }
+    }
+
+    // All of them.
+
+    private static void nothingChanges(Check check) {
+        check.sentence("What throws or is refused changes nothing");
+        BigRunner[] runners = inEveryState();
+        for (int state = 0; state < runners.length; state++) {
+            BigRunner runner = runners[state];
+            for (int i = 0; i < 20; i++) {
+                runner.give(i);
+            }
+            Check.typeAll(runner, "!(4");
+            String before = Check.everything(runner);
+            check.due("type", runner.type(' '), false);
+            check.due("give of a number that is too great", runner.give(1000000001), false);
+            check.due("give of the 21st", runner.give(20), false);
+            check.dueThrow("load", IllegalArgumentException.class, runner::load);
+            boolean isUnderWay = state == 1 || state == 2;
+            Class<?> due = isUnderWay ? IllegalArgumentException.class : IllegalStateException.class;
+            check.dueThrow("run(0)", due, () -> runner.run(0));
+            check.dueThrow("run(201)", due, () -> runner.run(201));
+            check.due("look(7)", runner.look(7), -1);
+            check.dueThrow("bound(10, true)", IndexOutOfBoundsException.class, () -> runner.bound(10, true));
+            check.due("small(10)", runner.small(10), false);
+            check.dueThrow("variable(10, 0)", IndexOutOfBoundsException.class, () -> runner.variable(10, 0));
+            check.dueThrow("variable(0, -3)", IndexOutOfBoundsException.class, () -> runner.variable(0, -3));
+            check.dueThrow("output(12, 0)", IndexOutOfBoundsException.class, () -> runner.output(12, 0));
+            check.dueThrow("output(0, -3)", IndexOutOfBoundsException.class, () -> runner.output(0, -3));
+            check.due("all in state " + state, Check.everything(runner), before);
+            Check.typeAll(runner, "2);[1:?a]");
+            check.due("load of the whole line", runner.load(), 2);
+            runner.run(1);
+            check.due("what was typed", Check.output(runner, 0), "42");
+            for (int i = 0; i < 20; i++) {
+                runner.run(2);
+                check.due("number " + i + " that was given", Check.variable(runner, 0), Integer.toString(i));
+            }
+            check.due("the numbers that wait", runner.look(6), 0);
         }
     }
 }

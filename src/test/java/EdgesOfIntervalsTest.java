@@ -24,6 +24,7 @@ public final class EdgesOfIntervalsTest {
         limitOfQuotientsAndRests(check);
         limitOnTheWay(check);
         atFirst(check);
+        afterOtherPrograms(check);
         forTheWholeProgram(check);
         inputs(check);
         joined(check);
@@ -169,12 +170,38 @@ public final class EdgesOfIntervalsTest {
         due(check, "j=-5", -5, 0);
         due(check, "j=5;j=9", 0, 9);
         due(check, "j=-5;j=-9", -9, 0);
-        Check.typeAll(runner, "a=5;b=-5;?c;d=d+1;e=e-1;f=9;g=9;h=9;i=9;j=9");
-        runner.load();
-        Check.typeAll(runner, "!1");
-        runner.load();
-        for (int i = 0; i < 10; i++) {
-            check.due("bounds of variable " + i + " after another program", Check.bounds(runner, i), "0..0");
+        String other = "a=5;b=-5;?c;d=d+1;e=e-1;f=9;g=9;h=9;i=9;j=9";
+        for (int times = 1; times <= 4; times++) {
+            BigRunner again = new BigRunner();
+            for (int i = 0; i < times; i++) {
+                Check.typeAll(again, other);
+                check.due("load of the other one", again.load(), 5);
+            }
+            Check.typeAll(again, "!1");
+            check.due("load after " + times, again.load(), 1);
+            for (int i = 0; i < 10; i++) {
+                check.due("bounds of variable " + i + " after " + times, Check.bounds(again, i), "0..0");
+            }
+        }
+    }
+
+    /** Whatever was loaded before, in the same object and perhaps of the same form, the bounds are the same. */
+    private static void afterOtherPrograms(Check check) {
+        check.sentence("At first all are 0 to 0 (whatever was loaded before)");
+        String[] texts = {
+            "j=5*7", "j=5*0", "j=0*7", "j=i*7", "j=5%7", "j=5%0", "j=-5%7", "j=5/7", "j=0/7", "j=5+7", "j=5-7", "j=j*7", "j=j+7", "j=j-7",
+            "?j", "?i;j=i*7", "?i;j=i*0", "j=7", "j=-7", "!j",
+        };
+        for (String before : texts) {
+            for (String text : texts) {
+                BigRunner runner = new BigRunner();
+                for (String next : new String[] {before, before, text, text}) {
+                    Check.typeAll(runner, next);
+                    runner.load();
+                    String due = Check.bounds(Check.loaded(next), 9);
+                    check.due("j in " + next + ", among " + before + " and " + text, Check.bounds(runner, 9), due);
+                }
+            }
         }
     }
 
@@ -256,6 +283,12 @@ public final class EdgesOfIntervalsTest {
         dueRounds(check, "j=j+1", 5);
         // What does not move in the fourth ROUND stays.
         due(check, "d=c;c=b;b=a;a=5;j=7", 0, 7);
+        // Moved in the fifth ROUND, in the sixth and in the seventh, each time by an EXPR that is bounded.
+        dueU(check, "j=d%10;d=c;c=b;b=a;a=5", "0..U");
+        dueU(check, "j=e%10;e=d;d=c;c=b;b=a;a=5", "0..U");
+        dueU(check, "j=f%10;f=e;e=d;d=c;c=b;b=a;a=5", "0..U");
+        // Moved in the third, by an EXPR that is bounded.
+        due(check, "j=b%10;b=a;a=50", 0, 9);
     }
 
     private static void fourthRoundDownward(Check check) {
@@ -269,6 +302,10 @@ public final class EdgesOfIntervalsTest {
         due(check, "j=(j-1)%4", -3, 3);
         dueU(check, "j=(j-1)%5", "U..U");
         dueU(check, "j=j-1", "U..0");
+        dueU(check, "j=d%10;d=c;c=b;b=a;a=-5", "U..U");
+        dueU(check, "j=0-d%10;d=c;c=b;b=a;a=5", "U..0");
+        dueU(check, "j=0-e%10;e=d;d=c;c=b;b=a;a=5", "U..0");
+        due(check, "j=0-b%10;b=a;a=50", -9, 0);
         dueRounds(check, "j=(j-1)%4", 4);
         dueRounds(check, "j=(j-1)%5", 5);
         dueRounds(check, "j=j-1", 5);
@@ -400,6 +437,8 @@ public final class EdgesOfIntervalsTest {
             due(check, start + "j=i*a", 0, 0);
             due(check, start + "j=a*(5-5)", 0, 0);
             due(check, start + "j=-0*a", 0, 0);
+            due(check, start + "j=a*0+5", 0, 5);
+            due(check, start + "j=a*0-5", -5, 0);
         }
         due(check, "j=0*0", 0, 0);
         due(check, "j=i*i", 0, 0);
@@ -468,6 +507,12 @@ public final class EdgesOfIntervalsTest {
         due(check, "j=-100%2", -1, 1);
         due(check, "j=-100%1", 0, 0);
         due(check, "j=-100%0", 0, 0);
+        due(check, "j=100%0+5", 0, 5);
+        due(check, "j=100%0-5", -5, 0);
+        due(check, "j=-100%0+5", 0, 5);
+        due(check, "j=-100%0-5", -5, 0);
+        due(check, "j=100%7-3", -3, 3);
+        due(check, "j=100%7-6", -6, 0);
         due(check, "?i;j=(999999999*9)%i", 0, 999999999);
     }
 

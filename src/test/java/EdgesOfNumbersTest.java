@@ -11,6 +11,7 @@ public final class EdgesOfNumbersTest {
         differences(check);
         products(check);
         productsOfAllLengths(check);
+        carries(check);
         onTheWay(check);
         quotients(check);
         rests(check);
@@ -42,13 +43,13 @@ public final class EdgesOfNumbersTest {
     private static void longest(Check check) {
         check.sentence("NUMBERS are whole, with at most 120 decimal digits");
         for (BigInteger b : new BigInteger[] {FARTHEST, FARTHEST.negate(), ten(119), ten(119).negate()}) {
-            BigRunner runner = Check.withB(b, "!b;c=-b;d=b");
-            check.due("the steps", runner.run(200), 3);
+            BigRunner runner = Check.withB(b, "c=-b;d=b");
+            check.due("the steps", runner.run(200), 2);
             check.due("b", Check.variable(runner, 1), b.toString());
-            check.due("its digits", runner.variable(1, -2), 120);
-            check.due("c", Check.variable(runner, 2), b.negate().toString());
+            check.due("the digits of c", runner.variable(2, -2), 120);
             check.due("d", Check.variable(runner, 3), b.toString());
-            check.due("the output", Check.output(runner, 0), b.toString());
+            dueOutput(check, b, "b", b);
+            dueOutput(check, b, "-b", b.negate());
         }
     }
 
@@ -123,6 +124,22 @@ public final class EdgesOfNumbersTest {
             check.due("10 to the " + power + " times the other", Check.output(runner, 0), ten(119).toString());
             check.dueThrow("10 times that", UnsupportedOperationException.class, () -> runner.run(1));
             check.due("trap", runner.look(1), 2);
+        }
+    }
+
+    private static void carries(Check check) {
+        check.sentence("NUMBERS are whole (next to every power of ten)");
+        for (int power = 0; power <= 119; power++) {
+            BigInteger b = ten(power);
+            for (BigInteger value : new BigInteger[] {b, b.negate()}) {
+                dueOutput(check, value, "b-1", value.subtract(BigInteger.ONE));
+                dueOutput(check, value, "b+1", value.add(BigInteger.ONE));
+                dueOutput(check, value, "(b-1)+1", value);
+                dueOutput(check, value, "(b+1)-1", value);
+                dueOutput(check, value, "(b-1)-b", BigInteger.ONE.negate());
+                dueOutput(check, value, "b-(b-1)", BigInteger.ONE);
+                dueOutput(check, value, "b*7/7", value);
+            }
         }
     }
 

@@ -206,6 +206,7 @@ public final class EdgesOfProgramTest {
         check.sentence("At most 10 PROGRAMs lie inside one another");
         right(check, nested("[1:", 9, "?a", "]"), nested("{1:", 9, "?a", "|?b}"), nested("{1:?b|", 9, "?a", "}"));
         wrong(check, nested("[1:", 10, "?a", "]"), nested("{1:", 10, "?a", "|?b}"), nested("{1:?b|", 10, "?a", "}"));
+        wrong(check, nested("[1:", 10, "", "]"), nested("{1:", 10, "", "|?b}"), nested("{1:?b|", 10, "", "}"));
         // The second PROGRAM of a CHOICE lies beside the first one, and what follows a LOOP beside its PROGRAM.
         right(check, nested("[1:", 8, "{1:?a|?b}", "]"), nested("[1:", 7, "[1:[1:?a]];[1:[1:?b]]", "]"));
         wrong(check, nested("[1:", 8, "{1:?a|[1:?b]}", "]"), nested("[1:", 8, "{1:[1:?b]|?a}", "]"));

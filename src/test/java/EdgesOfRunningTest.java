@@ -17,6 +17,7 @@ public final class EdgesOfRunningTest {
         noOperation(check);
         workedOutOnly(check);
         eachStep(check);
+        whatFollows(check);
         loopAgain(check);
         nextInput(check);
         noInput(check);
@@ -108,6 +109,19 @@ public final class EdgesOfRunningTest {
         check.due("MACHINE operations", runner.look(3), 2 + 1 + 0 + 1 + 0 + 0 + 0 + 1);
         check.due("LONG operations", runner.look(4), 1 + 1 + 1 + 1 + 1);
         dueOperations(check, TOP + "d=a+1;f=d%7;!f+1;!f*f", 4, 2);
+        // The farthest ones that a SMALL variable gets from LONG operations.
+        String[][] rows = {
+            {"(a+a-1)%a", "1152921504606846975"}, {"-(a+a-1)%a", "-1152921504606846975"}, {"a%(a+1)", "1152921504606846976"},
+            {"-a%(a+1)", "-1152921504606846976"}, {"(a+a)%a", "0"}, {"(a+a+1)%a", "1"}, {"-(a+a+1)%a", "-1"},
+            {"(a*2+999999999)%a", "999999999"}, {"(a*2+999999999+1)%a", "1000000000"}, {"-(a*2+999999999+1)%a", "-1000000000"},
+        };
+        for (String[] row : rows) {
+            BigRunner far = Check.ran(TOP + "c=" + row[0] + ";!c;d=c/1");
+            check.due("c is SMALL", far.small(2), true);
+            check.due("c = " + row[0], Check.variable(far, 2), row[1]);
+            check.due("!c", Check.output(far, 0), row[1]);
+            check.due("d = c / 1", Check.variable(far, 3), row[1]);
+        }
     }
 
     private static void eachOperation(Check check) {
@@ -164,6 +178,27 @@ public final class EdgesOfRunningTest {
             dueRun(check, "steps of " + texts[i], runner, 200, due[i]);
             check.due("counted of " + texts[i], runner.look(2), due[i]);
             check.due("the end of " + texts[i], runner.look(0), 3);
+        }
+    }
+
+    private static void whatFollows(Check check) {
+        check.sentence("then what follows it comes");
+        String[][] rows = {
+            {"!1;!2;!3", "1 2 3"}, {"{1:!1|!2};!3", "1 3"}, {"{0:!1|!2};!3", "2 3"}, {"{1:!1;!2|!3};!4", "1 2 4"},
+            {"{0:!1|!2;!3};!4", "2 3 4"}, {"[0:!1];!2", "2"}, {"{1:[0:!1]|!2};!3", "3"}, {"{0:!1|[0:!2]};!3", "3"},
+            {"a=2;[a:{a-1:!1|!2};a=a-1];!3", "1 2 3"}, {"a=2;[a:a=a-1;{a:!1|!2}];!3", "1 2 3"},
+            {"a=2;[a:a=a-1;[0:!1];!2];!3", "2 2 3"}, {"a=2;[a:a=a-1;[0:!1]];!3", "3"}, {"{1:{1:{1:!1|!2}|!3}|!4};!5", "1 5"},
+            {"{0:!1|{0:!2|{0:!3|!4}}};!5", "4 5"}, {"{1:{0:!1|!2}|!3};!4", "2 4"},
+            {"a=1;[a:b=1;[b:c=1;[c:!1;c=0];b=0];a=0];!2", "1 2"},
+        };
+        for (String[] row : rows) {
+            BigRunner runner = Check.ran(row[0]);
+            StringBuilder outputs = new StringBuilder();
+            for (int i = 0; i < runner.look(5); i++) {
+                outputs.append(i == 0 ? "" : " ").append(Check.output(runner, i));
+            }
+            check.due("the outputs of " + row[0], outputs.toString(), row[1]);
+            check.due("the end of " + row[0], runner.look(0), 3);
         }
     }
 
