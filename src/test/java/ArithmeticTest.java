@@ -9,6 +9,8 @@ public final class ArithmeticTest {
     private static final String PROGRAM = "?a;?f;[a:?b;?c;d=d*f+b;e=e*f+c;a=a-1];!d+e;!d-e;!-d;!d/e;!d%e;!d*e";
     private static final BigInteger TOO_LONG = BigInteger.TEN.pow(120);
     private static final int BASE = 1000000000;
+    // Two INPUTs, three ASSIGNMENTs, the last look of the LOOP, six OUTPUTs.
+    private static final int STEPS_OF_LAST_RUN = 12;
     private static final int[] LIMBS = {0, 0, 1, BASE - 1, BASE - 1, BASE - 2, BASE / 2, BASE / 2 - 1, 999};
 
     public static void main(String[] args) {
@@ -41,54 +43,53 @@ public final class ArithmeticTest {
     }
 
     private static void pair(Check check, BigInteger d, BigInteger e) {
-        BigRunner runner = Check.loaded(PROGRAM);
-        runner.give(14);
-        runner.give(BASE);
-        for (int i = 13; i >= 0; i--) {
-            runner.give(limb(d, i));
-            runner.give(limb(e, i));
-            if (i > 0) {
-                runner.run(200);
-            }
+        Replay replay = new Replay();
+        replay.typeAll(PROGRAM);
+        replay.change(BigRunner::load);
+        give(replay, 14);
+        give(replay, BASE);
+        for (int i = 13; i > 0; i--) {
+            give(replay, limb(d, i));
+            give(replay, limb(e, i));
+            replay.change(runner -> runner.run(200));
         }
-        int trap = 0;
-        try {
-            runner.run(200);
-        } catch (ArithmeticException x) {
-            trap = 1;
-        } catch (UnsupportedOperationException x) {
-            trap = 2;
-        }
+        give(replay, limb(d, 0));
+        give(replay, limb(e, 0));
         String pair = d + " and " + e + ": ";
         List<BigInteger> due = new ArrayList<>();
-        check.due(pair + "trap", trap, outputs(d, e, due));
-        check.due(pair + "outputs", runner.look(5), due.size());
-        for (int i = 0; i < due.size() && i < runner.look(5); i++) {
-            check.due(pair + "output " + i, Check.output(runner, i), due.get(i).toString());
+        check.due(pair + "the last run", replay.change(runner -> runner.run(200)), outputs(d, e, due));
+        int outputs = replay.forCalls(1).look(5);
+        check.due(pair + "outputs", outputs, due.size());
+        for (int i = 0; i < due.size() && i < outputs; i++) {
+            check.due(pair + "output " + i, replay.output(i), due.get(i).toString());
         }
+    }
+
+    private static void give(Replay replay, int number) {
+        replay.change(runner -> runner.give(number) ? 1 : 0);
     }
 
     private static int limb(BigInteger number, int place) {
         return number.divide(BigInteger.valueOf(BASE).pow(place)).remainder(BigInteger.valueOf(BASE)).intValueExact();
     }
 
-    /** Fills in the outputs that are due, up to the trap that it answers. */
-    private static int outputs(BigInteger d, BigInteger e, List<BigInteger> due) {
+    /** Fills in the outputs that are due, up to a trap, and answers what the last run does. */
+    private static String outputs(BigInteger d, BigInteger e, List<BigInteger> due) {
         for (BigInteger output : new BigInteger[] {d.add(e), d.subtract(e), d.negate()}) {
             if (output.abs().compareTo(TOO_LONG) >= 0) {
-                return 2;
+                return "UnsupportedOperationException";
             }
             due.add(output);
         }
         if (e.signum() == 0) {
-            return 1;
+            return "ArithmeticException";
         }
         due.add(d.divide(e));
         due.add(d.remainder(e));
         if (d.multiply(e).abs().compareTo(TOO_LONG) >= 0) {
-            return 2;
+            return "UnsupportedOperationException";
         }
         due.add(d.multiply(e));
-        return 0;
+        return Integer.toString(STEPS_OF_LAST_RUN);
     }
 }

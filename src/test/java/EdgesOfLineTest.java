@@ -172,7 +172,8 @@ public final class EdgesOfLineTest {
         check.sentence("An object is used for at most 512 calls after it has been made");
         BigRunner runner = new BigRunner();
         String text = "[1:?a;b=b+a]";
-        int calls = 0;
+        check.due("a refused character in call 1", runner.type(' '), false);
+        int calls = 1;
         for (int i = 0; i < text.length(); i++) {
             runner.type(text.charAt(i));
             calls++;

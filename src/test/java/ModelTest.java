@@ -5,7 +5,6 @@ import java.util.Random;
 /** Promises 4 to 11 on programs made at random, the same ones each time, against the Model. */
 public final class ModelTest {
     private static final int PROGRAMS = 20000;
-    private static final int PROGRAMS_AN_OBJECT = 4;
     private static final int NEAR_PROGRAMS = 40000;
 
     private static final int[] states = new int[5];
@@ -15,63 +14,73 @@ public final class ModelTest {
         Check check = new Check();
         Random random = new Random(20261115);
         Texts texts = new Texts(random);
-        BigRunner runner = new BigRunner();
         for (int i = 0; i < PROGRAMS; i++) {
-            if (i % PROGRAMS_AN_OBJECT == 0) {
-                runner = new BigRunner();
+            Replay replay = new Replay();
+            if (i % 2 == 0) {
+                anotherProgram(replay, texts.program(), random);
             }
-            oneProgram(check, runner, texts.program(), random);
+            oneProgram(check, replay, texts.program(), random);
         }
         int programs = 0;
         for (int i = 0; i < NEAR_PROGRAMS; i++) {
             String text = texts.nearProgram();
-            int due = roundsOfModel(text);
-            programs += due > 0 ? 1 : 0;
-            check.due("load of " + text, rounds(new BigRunner(), text), due);
+            String due = roundsOfModel(text);
+            programs += due.length() < 3 ? 1 : 0;
+            Replay replay = new Replay();
+            replay.typeAll(text);
+            check.due("load of " + text, replay.change(BigRunner::load), due);
         }
         System.out.println("of the texts nearly programs " + programs + " are; states " + java.util.Arrays.toString(states)
                 + ", traps " + java.util.Arrays.toString(traps));
         check.end("ModelTest");
     }
 
-    private static int roundsOfModel(String text) {
+    private static String roundsOfModel(String text) {
         try {
-            return new Model(text).rounds;
+            return Integer.toString(new Model(text).rounds);
         } catch (IllegalArgumentException e) {
-            return 0;
+            return "IllegalArgumentException";
         }
     }
 
-    private static int rounds(BigRunner runner, String text) {
-        Check.typeAll(runner, text);
-        try {
-            return runner.load();
-        } catch (IllegalArgumentException e) {
-            return 0;
+    /** Leaves what it will in the object, but no number that waits and no line. */
+    private static void anotherProgram(Replay replay, String text, Random random) {
+        replay.typeAll(text);
+        replay.change(BigRunner::load);
+        for (int i = 0; i < 3; i++) {
+            give(replay, new ArrayList<>(), random);
+            int n = 1 + random.nextInt(200);
+            replay.change(runner -> runner.run(n));
         }
-    }
-
-    /** The object may have had other programs; the numbers that wait are taken off first. */
-    private static void oneProgram(Check check, BigRunner runner, String text, Random random) {
-        takeAll(runner);
-        int rounds = roundsOfModel(text);
-        check.due("load of " + text, rounds(runner, text), rounds);
-        if (rounds == 0) {
+        replay.change(runner -> {
             runner.wipe();
+            return 0;
+        });
+        replay.typeAll("[1:?a]");
+        replay.change(BigRunner::load);
+        replay.change(runner -> runner.run(200));
+    }
+
+    private static void oneProgram(Check check, Replay replay, String text, Random random) {
+        replay.typeAll(text);
+        String rounds = roundsOfModel(text);
+        check.due("load of " + text, replay.change(BigRunner::load), rounds);
+        if (rounds.equals("IllegalArgumentException")) {
             return;
         }
         Model model = new Model(text);
         List<Integer> given = new ArrayList<>();
+        check.due(text + " at its beginning", replay.everything(), model.everything());
         int longest = random.nextInt(3) == 0 ? 200 : 9;
         for (int call = 0; call < 24; call++) {
             if (random.nextInt(3) > 0) {
-                give(runner, given, random);
+                give(replay, given, random);
+                model.goTo(model.steps, given);
+                check.due(text + " with numbers before call " + call, replay.forCalls(1).look(0), model.state);
             }
-            model.goTo(model.steps, given);
-            check.due(text + " before call " + call, Check.everything(runner), model.everything());
-            oneRun(check, text, runner, model, given, 1 + random.nextInt(longest));
+            oneRun(check, text, replay, model, given, 1 + random.nextInt(longest));
             if (model.state > 2) {
-                check.dueThrow(text + " is over", IllegalStateException.class, () -> runner.run(1));
+                check.due(text + " is over", replay.change(runner -> runner.run(1)), "IllegalStateException");
                 break;
             }
         }
@@ -79,34 +88,20 @@ public final class ModelTest {
         traps[model.trap]++;
     }
 
-    private static void takeAll(BigRunner runner) {
-        if (runner.look(6) > 0) {
-            Check.typeAll(runner, "[1:?a]");
-            runner.load();
-            runner.run(200);
-        }
-    }
-
-    private static void give(BigRunner runner, List<Integer> given, Random random) {
+    private static void give(Replay replay, List<Integer> given, Random random) {
         int number = random.nextInt(2) == 0 ? random.nextInt(9) - 3 : random.nextInt(2000000001) - 1000000000;
-        if (runner.give(number)) {
+        if (replay.change(runner -> runner.give(number) ? 1 : 0).equals("1")) {
             given.add(number);
         }
     }
 
-    private static void oneRun(Check check, String text, BigRunner runner, Model model, List<Integer> given, int n) {
+    private static void oneRun(Check check, String text, Replay replay, Model model, List<Integer> given, int n) {
         int before = model.steps;
         model.goTo(before + n, given);
         String due = model.trap == 0
                 ? Integer.toString(model.steps - before)
                 : model.trap == 1 ? "ArithmeticException" : "UnsupportedOperationException";
-        String got;
-        try {
-            got = Integer.toString(runner.run(n));
-        } catch (RuntimeException e) {
-            got = e.getClass().getSimpleName();
-        }
-        check.due(text + " run(" + n + ") after " + before, got, due);
-        check.due(text + " after " + (before + n), Check.everything(runner), model.everything());
+        check.due(text + " run(" + n + ") after " + before, replay.change(runner -> runner.run(n)), due);
+        check.due(text + " after " + (before + n), replay.everything(), model.everything());
     }
 }
